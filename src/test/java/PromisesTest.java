@@ -8,7 +8,6 @@ public final class PromisesTest {
         functions();
         sizes();
         calls();
-        callLimits();
         pages();
         heats();
         callers();
@@ -157,29 +156,6 @@ public final class PromisesTest {
 
         CallClusters sizeless = new CallClusters();
         due("call(0, 0, 1)", sizeless.call(0, 0, 1), 1);
-    }
-
-    /** Both limits lie beyond 512 calls, where the answers are free; these keep to the terms. */
-    private static void callLimits() {
-        part = "promise 4, limits";
-        CallClusters x = withSizes(new int[45]);
-        for (int i = 0; i < 2000; i++) {
-            due("call of pair " + i, x.call(i / 45, i % 45, 1), 1);
-        }
-        due("a pair more", x.call(44, 44, 1), -3);
-        due("a pair more with a wrong count", x.call(44, 44, 0), -2);
-        due("heat(44)", x.heat(44), 44);
-        due("one of the pairs", x.call(44, 19, 1), 2);
-        x.functions(45);
-        due("a pair after functions", x.call(44, 44, 1), 1);
-
-        for (int i = 1; i <= 1000; i++) {
-            due("call " + i, x.call(0, 1, 1000000000), i * 1000000000L);
-        }
-        due("call above 10^12", x.call(0, 1, 1), 1000000000000L);
-        due("heat(1)", x.heat(1), 1000000000000L);
-        due("call(2, 1, 1)", x.call(2, 1, 1), 1);
-        due("heat(1)", x.heat(1), 1000000000001L);
     }
 
     private static void pages() {

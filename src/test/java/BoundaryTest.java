@@ -218,6 +218,12 @@ public final class BoundaryTest {
             dueEmpty(x, BUSY_FUNCTIONS);
             due("call(0, 1, 1)", x.call(0, 1, 1), 1);
         });
+        test("2: without sizes and calls, though all was asked just before", () -> {
+            CallClusters x = busy();
+            allAnswers(x);
+            due("functions(4)", x.functions(BUSY_FUNCTIONS), true);
+            dueEmpty(x, BUSY_FUNCTIONS);
+        });
         test("2: without sizes, those told while there were more functions too", () -> {
             CallClusters x = busy();
             due("functions(1)", x.functions(1), true);
@@ -785,6 +791,12 @@ public final class BoundaryTest {
         test("13: one of both is not in the row", () -> {
             dueCosts(callOf(0, 5), 0, 0);
             dueCosts(callOf(5, 0), 0, 0);
+        });
+        test("13: one of both is no more in the row", () -> {
+            CallClusters x = callOf(3, 4);
+            dueCosts(x, 3, 3);
+            x.size(1, 0);
+            dueCosts(x, 0, 0);
         });
         test("13: unlike functions, so none of calls by itself", () -> {
             CallClusters x = withSizes(3, 4);

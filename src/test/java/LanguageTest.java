@@ -16,6 +16,9 @@ public final class LanguageTest {
     private static final Path SOURCE = Path.of("src/main/java/CallClusters.java");
     private static final long ROOM = 7300000;
     private static final int CALLS = 512;
+    private static final int MOST_CLASSES = 12;
+    private static final int MOST_FIELDS = 20;
+    private static final int MOST_PARAMETERS = 7;
     private static final Set<String> FACE = Set.of(
         "boolean functions(int)", "boolean size(int,int)", "long call(int,int,int)",
         "boolean page(int)", "long heat(int)", "int caller(int)", "int length()", "int row(int)",
@@ -25,6 +28,7 @@ public final class LanguageTest {
     public static void main(String[] args) throws Exception {
         face();
         words();
+        numbers();
         room();
         System.out.println(wrong == 0 ? "the rules are kept" : wrong + " rules are broken");
         if (wrong != 0) {
@@ -94,6 +98,31 @@ public final class LanguageTest {
         while (made.find()) {
             must(made.group().trim().startsWith("private final "),
                 "made elsewhere than with the object: " + made.group().trim());
+        }
+    }
+
+    /** Rules 2, 5 and 11: how the classes inside are made, static fields, and how many of each. */
+    private static void numbers() {
+        Class<?>[] insides = CallClusters.class.getDeclaredClasses();
+        must(insides.length + 1 <= MOST_CLASSES, "at most " + MOST_CLASSES + " classes");
+        numbersOf(CallClusters.class);
+        for (Class<?> inside : insides) {
+            must(inside.getDeclaredClasses().length == 0, inside.getName() + " has none inside");
+            numbersOf(inside);
+        }
+    }
+
+    private static void numbersOf(Class<?> type) {
+        int fields = 0;
+        for (Field field : type.getDeclaredFields()) {
+            boolean shared = Modifier.isStatic(field.getModifiers());
+            must(!shared || Modifier.isFinal(field.getModifiers()), field.getName() + " is final");
+            fields += shared ? 0 : 1;
+        }
+        must(fields <= MOST_FIELDS, type.getName() + " has at most " + MOST_FIELDS + " fields");
+        for (Method method : type.getDeclaredMethods()) {
+            must(method.getParameterCount() <= MOST_PARAMETERS,
+                method.getName() + " takes at most " + MOST_PARAMETERS + " parameters");
         }
     }
 
